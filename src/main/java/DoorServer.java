@@ -132,7 +132,8 @@ public final class DoorServer {
     public int reply(long p, int n) throws IllegalArgumentException, IllegalStateException {
         requireWithin(n, 1, MOST_PASSWORD);
         Packet challenge = server.answer;
-        if (challenge.length != MOST_ANSWER || challenge.row[0] != CHALLENGE) {
+        // Before the first answer its row has 0 there, which is no CHALLENGE either.
+        if (challenge.row[0] != CHALLENGE) {
             return NONE;
         }
         // STATE and TALK come together or not at all, so the room is asked for once.
@@ -832,15 +833,13 @@ public final class DoorServer {
             return label.length - n;
         }
 
+        /** A record comes once in its life: it is still open, and IN and OUT are 0. */
         void come(int ofStation, Request request, int time) {
             station = ofStation;
             label.becomeRow(request.packet.row, request.startOf(SESSION), request.lengthOf(SESSION));
             lastOfName = request.byteOf(NAME, request.lengthOf(NAME) - 1);
-            closed = false;
             cameAt = time;
             changedAt = time;
-            in = 0;
-            out = 0;
         }
 
         /** STATUS 2 or 3, of a record that is open. What is not told counts 0, which is never greater. */

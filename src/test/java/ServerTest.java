@@ -100,6 +100,18 @@ public final class ServerTest {
         }
         door.put(26, 60, 0);
         check.due("1000 bytes", door.count(5) * 10 + door.send(0), 10000 + DoorServer.OTHER);
+        door.spoil(1000 - 61, 62 ^ 61);
+        check.due("1000 bytes, the last one left over", door.send(0), DoorServer.BROKEN);
+        for (int n = 98; n <= 100; n++) {
+            for (int type : new int[] {26, 79}) {
+                door.draft(3, 0, 0);
+                door.put(type, n, 0);
+                door.put(26, 0, 0);
+                door.spoil(21, (n + 2) ^ (n + 4));
+                boolean fits = type == 26 || n + 2 <= 100;
+                check.due("a value of " + (n + 2) + " for type " + type, door.send(0), fits ? DoorServer.OTHER : DoorServer.BROKEN);
+            }
+        }
     }
 
     private static void orderOfRefusals() {
@@ -274,6 +286,7 @@ public final class ServerTest {
             check.due("without TALK", door.size(), 38);
             dueDigests("name", door, SECRET, true);
         }
+        everyName();
         door.draft(1, 50, 1);
         door.hello(1);
         check.due("TALK without NAME", proved(door, 0), 3);
@@ -284,6 +297,24 @@ public final class ServerTest {
         check.due("TALK of one who was not told", proved(door, 0), 3);
         check.due("has no TALK either", door.size(), 38);
         check.due("nor a trial", door.count(1), 0);
+    }
+
+    private static void everyName() {
+        DoorServer door = new DoorServer();
+        for (int user = 0; user < 32; user++) {
+            door.user(user, P, 9);
+        }
+        int identifier = 0;
+        for (int tens = '/'; tens <= '4'; tens++) {
+            for (int ones = '/'; ones <= ':'; ones++) {
+                door.draft(1, identifier++, 1);
+                door.put(1, 3, 0);
+                setValue(door, 'u', tens, ones);
+                door.password(0, P, 9);
+                boolean told = tens >= '0' && ones >= '0' && ones <= '9' && (tens - '0') * 10 + ones - '0' < 32;
+                check.due("name u" + (char) tens + (char) ones, proved(door, 0), told ? 2 : 3);
+            }
+        }
     }
 
     private static void passwords() {
@@ -376,7 +407,7 @@ public final class ServerTest {
             door.name(31);
             state(door, mark);
             door.put(79, 5, 0);
-            talk(door, 2, 1, 0, 5, 4);
+            setValue(door, 2, 1, 0, 5, 4);
             check.due("a bad reply to trial " + mark, proved(door, 0), 3);
             check.due("uses it up if it is kept", door.count(1), mark <= 2 ? before : before - 1);
         }
@@ -385,7 +416,7 @@ public final class ServerTest {
         door.name(31);
         state(door, 0);
         door.put(79, 5, 0);
-        talk(door, 2, 1, 0, 5, 4);
+        setValue(door, 2, 1, 0, 5, 4);
         check.due("mark 0 is of no trial", proved(door, 0), 3);
         check.due("and none is used up", door.count(1), 0);
     }
@@ -397,8 +428,8 @@ public final class ServerTest {
         }
     }
 
-    /** Makes the last attribute's value, which counts up from 0, begin with these bytes. */
-    private static void talk(DoorServer door, int... value) {
+    /** Makes these bytes the value of the last attribute. */
+    private static void setValue(DoorServer door, int... value) {
         byte[] draft = Check.draft(door);
         int at = draft.length - value.length;
         for (int i = 0; i < value.length; i++) {
@@ -519,7 +550,7 @@ public final class ServerTest {
             door.draft(1, i, 1);
             door.name(0);
             door.put(79, values[i].length, 0);
-            talk(door, values[i]);
+            setValue(door, values[i]);
             check.due("talk " + Arrays.toString(values[i]), proved(door, 0), 3);
             dueTalk("talk " + Arrays.toString(values[i]), door, 4, 9);
             check.due("no trial", door.count(1), 0);
@@ -527,7 +558,7 @@ public final class ServerTest {
         door.draft(1, 100, 1);
         door.name(0);
         door.put(79, 7, 0);
-        talk(door, 2, 255, 0, 7, 1, 99, 99);
+        setValue(door, 2, 255, 0, 7, 1, 99, 99);
         check.due("a hello with more behind it", proved(door, 0), 11);
         check.due("its number", door.byteAt(33), 0);
     }

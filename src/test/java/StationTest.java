@@ -321,11 +321,22 @@ public final class StationTest {
         beyond.spoil(21, 128);
         check.due("nor behind one that goes beyond the end", beyond.prove(0), 61);
 
+        DoorServer cut = new DoorServer();
+        cut.put(80, 15, 1);
+        cut.spoil(21, 17 ^ 18);
+        byte[] whole = Model.with(Model.join(Check.draft(cut), 80, 18, new byte[16]), 2, bytes(0, 55));
+        check.due("a PROOF that goes beyond the end is none", cut.prove(0), 55);
+        check.due("the one that came is made right", Check.draft(cut), Model.with(whole, 39, Model.hmac(bytes(49), whole)));
+
         check.illegal("prove(-1)", door, () -> door.prove(-1));
         check.illegal("prove(4)", door, () -> door.prove(4));
         needs("prove(0)", 18, d -> d.prove(0));
         DoorServer full = filled(1000);
         check.illegal("prove(4) into a full draft", full, () -> full.prove(4));
+        check.refuses("prove(0) into a full draft", full, Check.ILLEGAL_STATE, () -> full.prove(0));
+        DoorServer shifted = filled(1000);
+        shifted.spoil(shifted.count(5) - 61, 62 ^ 61);
+        check.refuses("prove(0) with a byte left at the end", shifted, Check.ILLEGAL_STATE, () -> shifted.prove(0));
         DoorServer there = filled(982);
         there.prove(0);
         check.due("prove again in a full draft", there.prove(1), 1000);
@@ -401,6 +412,13 @@ public final class StationTest {
         check.illegal("ticks(1001)", door, () -> door.ticks(1001));
         check.illegal("ticks(largest)", door, () -> door.ticks(Integer.MAX_VALUE));
         check.due("ticks(9)", door.ticks(9), 1010);
+        // No 512 calls reach the last tick: what is looked at here the class does beyond its promise.
+        for (int i = 0; i < 998; i++) {
+            door.ticks(1000);
+        }
+        check.illegal("ticks(991) beyond the last one", door, () -> door.ticks(991));
+        check.due("ticks(990) up to the last one", door.ticks(990), 1000000);
+        check.illegal("ticks(1) after it", door, () -> door.ticks(1));
     }
 
     /** Promise 18. */
