@@ -153,14 +153,13 @@ public final class DoorServer {
 
     public int prove(int station) throws IllegalArgumentException, IllegalStateException {
         requireStation(station);
-        int at = draft.findValue(PROOF, DIGEST);
-        if (at == NONE) {
+        if (draft.findValue(PROOF, DIGEST) == NONE) {
             requireRoom(DIGEST);
             draft.open(PROOF, DIGEST);
-            at = draft.length;
             draft.appendZeros(DIGEST);
         }
         draft.tellLength();
+        int at = firstProof();
         draft.write(at, server.digests.ofProof(server.secrets[station], draft, at));
         return draft.length;
     }
@@ -251,6 +250,16 @@ public final class DoorServer {
         if (draft.length + 2 + n > MOST_PACKET) {
             throw new IllegalStateException();
         }
+    }
+
+    /**
+     * Where the PROOF stands that is made right, one being there. It is looked for when the draft is as long as it
+     * will be: an attribute that went beyond the end may end within it by what came. Where none is reached, it is
+     * the one that came.
+     */
+    private int firstProof() {
+        int at = draft.findValue(PROOF, DIGEST);
+        return at == NONE ? draft.length - DIGEST : at;
     }
 
     private int closedDraft() {

@@ -253,20 +253,29 @@ final class Model {
         return attach(attribute(24, told.get(24)), attribute(79, 2, talk[1] & 255, 0, 22, 4, 16, digest));
     }
 
-    int prove(int station) {
-        legal(isStation(station));
-        int at = -1;
-        for (int i = 20; at < 0 && i + 1 < draft.length; ) {
+    /** Where the value of the draft's first PROOF with 16 bytes begins, or -1. */
+    private int firstProof() {
+        int i = 20;
+        while (i + 1 < draft.length) {
             int taken = draft[i + 1] & 255;
             if (taken < 2 || i + taken > draft.length) {
-                break;
+                return -1;
             }
-            at = draft[i] == 80 && taken == 18 ? i + 2 : -1;
+            if (draft[i] == 80 && taken == 18) {
+                return i + 2;
+            }
             i += taken;
         }
-        if (at < 0) {
-            at = attach(attribute(80, new byte[16])) - 16;
+        return -1;
+    }
+
+    int prove(int station) {
+        legal(isStation(station));
+        if (firstProof() < 0) {
+            attach(attribute(80, new byte[16]));
         }
+        // Where the going-through does not come so far, the one that came is the first.
+        int at = firstProof() < 0 ? draft.length - 16 : firstProof();
         draft = with(with(draft, 2, big(draft.length, 2)), at, new byte[16]);
         draft = with(draft, at, hmac(secrets[station], draft));
         return draft.length;

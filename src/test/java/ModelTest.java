@@ -169,7 +169,7 @@ public final class ModelTest {
     }
 
     private void wildCall() {
-        switch (any(16)) {
+        switch (any(17)) {
             case 0: secret(around(3), random.nextLong(), around(41)); break;
             case 1: user(around(31), pattern(), around(61)); break;
             case 2: draft(around(255), around(255), random.nextLong()); break;
@@ -185,8 +185,23 @@ public final class ModelTest {
             case 12: send(around(3)); break;
             case 13: ticks(around(40)); break;
             case 14: ticks(around(1000)); break;
+            case 15: crookedProof(); break;
             default: put(new int[] {1, 2, 24, 40, 42, 43, 44, 79, 80}[any(9)], any(25), any(256)); break;
         }
+    }
+
+    /** An attribute whose length says another one, mostly that of a PROOF: what prove() does hangs on where it ends. */
+    private void crookedProof() {
+        int n = any(25);
+        int before = model.count(5);
+        if (before + n + 2 > 1000) {
+            return;
+        }
+        put(any(4) == 0 ? 26 : 80, n, any(256));
+        spoil(before + 1, (n + 2) ^ (any(3) == 0 ? any(60) : 18));
+        if (any(3) == 0) put(26, any(20), any(256));
+        prove(any(4));
+        lookAtAll();
     }
 
     private void spoilSomewhere() {

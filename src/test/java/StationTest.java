@@ -321,12 +321,15 @@ public final class StationTest {
         beyond.spoil(21, 128);
         check.due("nor behind one that goes beyond the end", beyond.prove(0), 61);
 
-        DoorServer cut = new DoorServer();
-        cut.put(80, 15, 1);
-        cut.spoil(21, 17 ^ 18);
-        byte[] whole = Model.with(Model.join(Check.draft(cut), 80, 18, new byte[16]), 2, bytes(0, 55));
-        check.due("a PROOF that goes beyond the end is none", cut.prove(0), 55);
-        check.due("the one that came is made right", Check.draft(cut), Model.with(whole, 39, Model.hmac(bytes(49), whole)));
+        for (int n = 0; n <= 16; n++) {
+            proofThatEndsInWhatCame(n);
+        }
+        DoorServer lost = new DoorServer();
+        lost.put(80, 15, 1);
+        lost.spoil(21, 17 ^ 36);
+        byte[] whole = Model.with(Model.join(Check.draft(lost), 80, 18, new byte[16]), 2, bytes(0, 55));
+        check.due("an attribute that goes beyond the end still", lost.prove(0), 55);
+        check.due("the one that came is made right", Check.draft(lost), Model.with(whole, 39, Model.hmac(bytes(49), whole)));
 
         check.illegal("prove(-1)", door, () -> door.prove(-1));
         check.illegal("prove(4)", door, () -> door.prove(4));
@@ -340,6 +343,19 @@ public final class StationTest {
         DoorServer there = filled(982);
         there.prove(0);
         check.due("prove again in a full draft", there.prove(1), 1000);
+    }
+
+    /** A PROOF that says 18 bytes and has n + 2: where one comes behind it, it has them all, and is the first. */
+    private static void proofThatEndsInWhatCame(int n) {
+        DoorServer door = new DoorServer();
+        door.put(80, n, 200);
+        door.spoil(21, (n + 2) ^ 18);
+        byte[] made = Check.draft(door);
+        boolean comes = n < 16;
+        byte[] longer = comes ? Model.with(Model.join(made, 80, 18, new byte[16]), 2, bytes(0, 40 + n)) : made;
+        check.due("prove with " + n + " bytes of a PROOF of 16", door.prove(0), longer.length);
+        byte[] hole = Model.with(longer, 22, new byte[16]);
+        check.due("the first is made right then", Check.draft(door), Model.with(hole, 22, Model.hmac(bytes(49), hole)));
     }
 
     /** Promise 12. */
