@@ -1,4 +1,5 @@
 import java.util.Arrays;
+import java.util.function.Consumer;
 
 /** Counts and prints answers that are not as due. */
 final class Check {
@@ -31,20 +32,38 @@ final class Check {
     /** The call throws what is due, and leaves the object as it was. */
     void refuses(String what, DoorServer door, int due, Call call) {
         byte[] before = all(door);
-        int thrown = 0;
-        try {
-            call.run();
-        } catch (IllegalArgumentException e) {
-            thrown = ILLEGAL_ARGUMENT;
-        } catch (IllegalStateException e) {
-            thrown = ILLEGAL_STATE;
-        }
-        due(what + " throws (1 IllegalArgumentException, 2 IllegalStateException)", thrown, due);
+        due(what + " throws (1 IllegalArgumentException, 2 IllegalStateException)", thrownBy(call), due);
         due(what + " changes nothing", all(door), before);
     }
 
     void illegal(String what, DoorServer door, Call call) {
         refuses(what, door, ILLEGAL_ARGUMENT, call);
+    }
+
+    /** The call is refused on an object with a past, which then answers all that is asked as one that never got it. */
+    void refuses(String what, int due, Consumer<DoorServer> before, Consumer<DoorServer> call) {
+        DoorServer door = Bench.lived();
+        before.accept(door);
+        due(what + " throws (1 IllegalArgumentException, 2 IllegalStateException)", thrownBy(() -> call.accept(door)), due);
+        DoorServer other = Bench.lived();
+        before.accept(other);
+        due(what + " changes nothing", Bench.allOf(door).equals(Bench.allOf(other)) ? 1 : 0, 1);
+    }
+
+    void illegal(String what, Consumer<DoorServer> call) {
+        refuses(what, ILLEGAL_ARGUMENT, door -> { }, call);
+    }
+
+    /** What a call throws, 0 for nothing. */
+    static int thrownBy(Call call) {
+        try {
+            call.run();
+            return 0;
+        } catch (IllegalArgumentException e) {
+            return ILLEGAL_ARGUMENT;
+        } catch (IllegalStateException e) {
+            return ILLEGAL_STATE;
+        }
     }
 
     static byte[] draft(DoorServer door) {
