@@ -46,30 +46,43 @@ final class Bench {
         return row;
     }
 
-    /** Puts any bytes at the draft's end, well formed or not: 2 or more, or none. */
+    /** Puts any bytes at the draft's end, well formed or not: 2 or more, or none. Few calls do for one attribute. */
     static void attach(DoorServer door, Object... parts) {
         byte[] wanted = Model.join(parts);
-        int at = door.count(5);
         for (int done = 0; done < wanted.length; ) {
-            int left = wanted.length - done;
-            int taken = left <= 102 ? left : Math.min(102, left - 2);
-            door.put(0, taken - 2, 0);
-            for (int i = 0; i < taken; i++) {
-                int is = i == 0 ? 0 : i == 1 ? taken : i - 2;
+            int taken = nextTaken(wanted.length - done);
+            int b = taken > 2 ? wanted[done + 2] & 255 : 0;
+            int at = door.put(wanted[done] & 255, taken - 2, b) - taken;
+            for (int i = 1; i < taken; i++) {
+                int is = i == 1 ? taken : b + i - 2 & 255;
                 int due = wanted[done + i] & 255;
                 if (is != due) {
-                    door.spoil(at + done + i, is ^ due);
+                    door.spoil(at + i, is ^ due);
                 }
             }
             done += taken;
         }
     }
 
-    /** Brings the draft to n bytes by attributes that count for nothing; n is not 1 more than it has. */
+    /** How many bytes the next attribute takes where some are left to be put: never so many that 1 stays. */
+    private static int nextTaken(int left) {
+        return left <= 102 ? left : Math.min(102, left - 2);
+    }
+
+    /** Attributes of n bytes in all that count for nothing; n is not 1. */
+    static byte[] filling(int n) {
+        byte[] all = new byte[0];
+        while (all.length < n) {
+            all = Model.join(all, attribute(26, row(nextTaken(n - all.length) - 2, 0)));
+        }
+        return all;
+    }
+
+    /** Brings the draft to n bytes by filling(). */
     static void fill(DoorServer door, int n) {
         int left = n - door.count(5);
         while (left > 0) {
-            int taken = left <= 102 ? left : Math.min(102, left - 2);
+            int taken = nextTaken(left);
             door.put(26, taken - 2, 0);
             left -= taken;
         }

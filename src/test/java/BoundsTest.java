@@ -30,12 +30,12 @@ public final class BoundsTest {
     }
 
     private static byte[] tail(DoorServer door, int n) {
-        byte[] draft = Check.draft(door);
-        return Arrays.copyOfRange(draft, draft.length - n, draft.length);
+        int end = door.count(5);
+        return Check.draft(door, end - n, end);
     }
 
     private static byte[] authenticator(DoorServer door) {
-        return Arrays.copyOfRange(Check.draft(door), 4, 20);
+        return Check.draft(door, 4, 20);
     }
 
     private static int length(DoorServer door) {
@@ -458,18 +458,36 @@ public final class BoundsTest {
         check.due("it is another proof", Arrays.equals(tail(door, 16), by0) ? 1 : 0, 0);
         check.refuses("prove into 983", Check.ILLEGAL_STATE, d -> Bench.fill(d, 983), d -> d.prove(0));
         check.refuses("prove into 1000", Check.ILLEGAL_STATE, d -> Bench.fill(d, 1000), d -> d.prove(0));
+        check.refuses("prove into 1000 with the last byte left over", Check.ILLEGAL_STATE, d -> {
+            Bench.fill(d, 943);
+            Bench.attach(d, 26, 56, new byte[55]);
+        }, d -> d.prove(0));
     }
 
-    /** Promise 12: "LENGTH and the authenticator are put right": of any length and secret. */
+    /** Promise 12: "LENGTH and the authenticator are put right": of any length, so with every filling that D knows. */
     private static void seals() {
-        for (int n : new int[] {20, 22, 54, 55, 56, 63, 64, 65, 119, 120, 999, 1000}) {
-            DoorServer door = Bench.filled(n);
-            door.secret(3, P, 40);
-            door.spoil(2, 1);
-            door.spoil(3, 1);
-            byte[] blank = Model.with(Model.with(Check.draft(door), 4, new byte[16]), 2, Bench.big(n, 2));
-            door.seal(3);
-            check.due("seal of " + n, Check.draft(door), Model.with(blank, 4, Model.md5(blank, Model.pattern(P, 40))));
+        for (int n = 22; n <= 1000; n += n < 160 ? 1 : 28) {
+            for (int station = 2; station <= 3; station++) {
+                DoorServer door = Bench.filled(n);
+                door.secret(3, P, 40);
+                door.spoil(2, 1);
+                door.spoil(3, 1);
+                byte[] blank = Model.join(1, 0, Bench.big(n, 2), new byte[16], Bench.filling(n - 20));
+                door.seal(station);
+                check.due("LENGTH of " + n, length(door), n);
+                byte[] secret = station == 2 ? Bench.bytes(51) : Model.pattern(P, 40);
+                check.due("seal of " + n, authenticator(door), Model.md5(blank, secret));
+            }
+        }
+    }
+
+    /** The same for H: the proof of a draft of any length. */
+    private static void proofs() {
+        for (int n = 40; n <= 1000; n += n < 180 ? 1 : 20) {
+            DoorServer door = Bench.filled(n - 18);
+            byte[] blank = Model.join(1, 0, Bench.big(n, 2), authenticator(door), Bench.filling(n - 38), 80, 18, new byte[16]);
+            check.due("prove", door.prove(1), n);
+            check.due("a proof of " + n, tail(door, 16), Model.hmac(Bench.bytes(50), blank));
         }
     }
 
@@ -603,6 +621,7 @@ public final class BoundsTest {
         firstProofOfTheLongerDraft();
         proofInFullDraft();
         seals();
+        proofs();
         spoiledPlaces();
         answerPlaces();
         lastAnswerStays();

@@ -29,17 +29,6 @@ final class Check {
         }
     }
 
-    /** The call throws what is due, and leaves the object as it was. */
-    void refuses(String what, DoorServer door, int due, Call call) {
-        byte[] before = all(door);
-        due(what + " throws (1 IllegalArgumentException, 2 IllegalStateException)", thrownBy(call), due);
-        due(what + " changes nothing", all(door), before);
-    }
-
-    void illegal(String what, DoorServer door, Call call) {
-        refuses(what, door, ILLEGAL_ARGUMENT, call);
-    }
-
     /** The call is refused on an object with a past, which then answers all that is asked as one that never got it. */
     void refuses(String what, int due, Consumer<DoorServer> before, Consumer<DoorServer> call) {
         DoorServer door = Bench.lived();
@@ -67,27 +56,27 @@ final class Check {
     }
 
     static byte[] draft(DoorServer door) {
-        byte[] bytes = new byte[door.count(5)];
-        for (int i = 0; i < bytes.length; i++) {
-            bytes[i] = (byte) door.spoil(i, 0);
+        return draft(door, 0, door.count(5));
+    }
+
+    static byte[] draft(DoorServer door, int from, int to) {
+        byte[] bytes = new byte[to - from];
+        for (int i = from; i < to; i++) {
+            bytes[i - from] = (byte) door.spoil(i, 0);
         }
         return bytes;
     }
 
     static byte[] answer(DoorServer door) {
-        byte[] bytes = new byte[door.size()];
-        for (int i = 0; i < bytes.length; i++) {
-            bytes[i] = (byte) door.byteAt(i);
-        }
-        return bytes;
+        return answer(door, 0, door.size());
     }
 
-    private static byte[] all(DoorServer door) {
-        byte[] counts = new byte[6];
-        for (int what = 0; what < 6; what++) {
-            counts[what] = (byte) door.count(what);
+    static byte[] answer(DoorServer door, int from, int to) {
+        byte[] bytes = new byte[to - from];
+        for (int i = from; i < to; i++) {
+            bytes[i - from] = (byte) door.byteAt(i);
         }
-        return Model.join(draft(door), answer(door), counts);
+        return bytes;
     }
 
     void end() {

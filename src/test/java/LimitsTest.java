@@ -9,18 +9,11 @@ public final class LimitsTest {
     private static final long P = Bench.P;
     private static final byte[] PASSWORD_31 = Model.pattern(P, 60);
 
-    /** The attributes of the last answer, but for its PROOF. */
-    private static byte[] told(DoorServer door) {
-        byte[] answer = Check.answer(door);
-        return Arrays.copyOfRange(answer, 20, answer.length - 18);
-    }
-
     /** The last answer has a code and attributes, and the digests that its request wants; the draft is still that. */
     private static void dueAnswer(String what, DoorServer door, int code, byte[] attributes) {
-        byte[] draft = Check.draft(door);
-        byte[] asked = Arrays.copyOfRange(draft, 4, 20);
+        byte[] asked = Check.draft(door, 4, 20);
         int n = 38 + attributes.length;
-        byte[] due = Model.join(code, draft[1] & 255, 0, n, asked, attributes, Bench.attribute(80, new byte[16]));
+        byte[] due = Model.join(code, door.spoil(1, 0), 0, n, asked, attributes, Bench.attribute(80, new byte[16]));
         due = Model.with(due, n - 16, Model.hmac(Bench.bytes(49), due));
         check.due(what, Check.answer(door), Model.with(due, 4, Model.md5(due, 49)));
     }
@@ -40,7 +33,7 @@ public final class LimitsTest {
     }
 
     private static byte[] drawn(DoorServer door) {
-        return Arrays.copyOfRange(Check.answer(door), 38, 54);
+        return Check.answer(door, 38, 54);
     }
 
     private static byte[] state(long mark) {
@@ -236,8 +229,11 @@ public final class LimitsTest {
                 drawn[i] = (byte) (h >>> 56);
             }
             check.due("hello", Bench.ask(door, 0, 31, mark, mark), 11);
-            dueAnswer("CHALLENGE " + mark, door, 11,
-                Model.join(state(mark), Bench.attribute(79, 1, mark + 1, 0, 22, 4, 16, drawn)));
+            check.due("its mark", door.byteAt(29), mark);
+            if (mark <= 2 || mark == 20) {
+                dueAnswer("CHALLENGE " + mark, door, 11,
+                    Model.join(state(mark), Bench.attribute(79, 1, mark + 1, 0, 22, 4, 16, drawn)));
+            }
         }
     }
 
@@ -284,21 +280,23 @@ public final class LimitsTest {
 
     /** "Kind 4: there must be STATE, the mark of a trial that is kept". */
     private static void trialMark() {
+        long[] marks = {0, 2, 257, 1L << 32 | 1, 1L << 56 | 1, Long.MIN_VALUE | 1, -1};
+        for (long mark : marks) {
+            DoorServer door = Bench.withUsers();
+            Bench.ask(door, 0, 31, 1, 7);
+            check.due("mark " + mark, asks(door, 2, state(mark), good(8, drawn(door))), 3);
+            dueReject("mark " + mark, door, 8);
+            check.due("the trial is kept", door.count(1), 1);
+        }
         DoorServer door = Bench.withUsers();
         Bench.ask(door, 0, 31, 1, 7);
-        byte[] drawn = drawn(door);
-        byte[] good = good(8, drawn);
+        byte[] good = good(8, drawn(door));
         check.due("without STATE", asks(door, 2, good), 3);
         dueReject("without STATE", door, 8);
-        long[] marks = {0, 2, 257, 1L << 32 | 1, 1L << 56 | 1, Long.MIN_VALUE | 1, -1};
-        for (int i = 0; i < marks.length; i++) {
-            check.due("mark " + marks[i], asks(door, 3 + i, state(marks[i]), good), 3);
-            dueReject("mark " + marks[i], door, 8);
-        }
         check.due("the trial is kept", door.count(1), 1);
-        check.due("mark 1, TALK before STATE", asks(door, 50, good, state(1)), 2);
+        check.due("mark 1, TALK before STATE", asks(door, 3, good, state(1)), 2);
         check.due("it is kept no more", door.count(1), 0);
-        check.due("mark 1 again", asks(door, 51, state(1), good), 3);
+        check.due("mark 1 again", asks(door, 4, state(1), good), 3);
         dueReject("mark 1 again", door, 8);
         check.due("trials", door.count(1), 0);
     }

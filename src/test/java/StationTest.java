@@ -1,6 +1,6 @@
 import java.util.Arrays;
 
-/** The calls of a station's side, one promise after the other: ordinary inputs, edges, wrong inputs. */
+/** The calls of a station's side, one promise after the other; what they refuse is in BoundsTest. */
 public final class StationTest {
     private static final Check check = new Check();
     private static final long P = 0x8877665544332211L;
@@ -14,33 +14,12 @@ public final class StationTest {
     }
 
     private static byte[] tail(DoorServer door, int n) {
-        byte[] draft = Check.draft(door);
-        return Arrays.copyOfRange(draft, draft.length - n, draft.length);
+        int end = door.count(5);
+        return Check.draft(door, end - n, end);
     }
 
     private static byte[] length(DoorServer door) {
-        return Arrays.copyOfRange(Check.draft(door), 2, 4);
-    }
-
-    /** A draft of just n bytes: 20 .. 1000, but for 21. */
-    private static DoorServer filled(int n) {
-        DoorServer door = new DoorServer();
-        int left = n - 20;
-        while (left > 0) {
-            int taken = left <= 102 ? left : Math.min(102, left - 2);
-            door.put(26, taken - 2, 0);
-            left -= taken;
-        }
-        check.due("filled(" + n + ")", door.count(5), n);
-        return door;
-    }
-
-    /** An attribute of n bytes goes into a draft of 1000 - n, not into one of a byte more. */
-    private static void needs(String what, int n, java.util.function.ToIntFunction<DoorServer> call) {
-        DoorServer fits = filled(1000 - n);
-        check.due(what + " into " + (1000 - n), call.applyAsInt(fits), 1000);
-        DoorServer full = filled(1001 - n);
-        check.refuses(what + " into " + (1001 - n), full, Check.ILLEGAL_STATE, () -> call.applyAsInt(full));
+        return Check.draft(door, 2, 4);
     }
 
     /** Promise 1. */
@@ -80,16 +59,6 @@ public final class StationTest {
             door.seal(2);
             check.due("the others' stay", tail(door, 16), Model.md5(blank, 51));
         }
-        DoorServer door = new DoorServer();
-        door.draft(4, 0, 0);
-        door.seal(0);
-        byte[] sealed = Check.draft(door);
-        check.illegal("secret(-1, 1, 1)", door, () -> door.secret(-1, 1, 1));
-        check.illegal("secret(4, 1, 1)", door, () -> door.secret(4, 1, 1));
-        check.illegal("secret(0, 1, 0)", door, () -> door.secret(0, 1, 0));
-        check.illegal("secret(0, 1, 41)", door, () -> door.secret(0, 1, 41));
-        door.seal(0);
-        check.due("a refused secret changes nothing", Check.draft(door), sealed);
     }
 
     /** Promise 3. */
@@ -98,15 +67,8 @@ public final class StationTest {
         check.due("user(0) is new", door.user(0, P, 1) ? 1 : 0, 1);
         check.due("user(31) is new", door.user(31, P, 60) ? 1 : 0, 1);
         check.due("user(31) again", door.user(31, P, 59) ? 1 : 0, 0);
-        check.illegal("user(-1, 1, 1)", door, () -> door.user(-1, 1, 1));
-        check.illegal("user(32, 1, 1)", door, () -> door.user(32, 1, 1));
-        check.illegal("user(1, 1, 0)", door, () -> door.user(1, 1, 0));
-        check.illegal("user(1, 1, 61)", door, () -> door.user(1, 1, 61));
-        check.due("a refused user is not told", door.user(1, 1, 1) ? 1 : 0, 1);
         check.due("the password is the later one", logIn(door, 31, P, 59), 2);
         check.due("and not the earlier one", logIn(door, 31, P, 60), 3);
-        check.illegal("user(31, 0, 61)", door, () -> door.user(31, 0, 61));
-        check.due("a refused password is none", logIn(door, 31, P, 59), 2);
     }
 
     private static int logIn(DoorServer door, int user, long p, int n) {
@@ -127,10 +89,6 @@ public final class StationTest {
         door.draft(0, 255, -1L);
         check.due("draft(0, 255, -1)", Check.draft(door), bytes(0, 255, 0, 20, 255, 255, 255, 255, 255, 255, 255, 255,
             165, 165, 165, 165, 165, 165, 165, 165));
-        check.illegal("draft(256, 0, 0)", door, () -> door.draft(256, 0, 0));
-        check.illegal("draft(-1, 0, 0)", door, () -> door.draft(-1, 0, 0));
-        check.illegal("draft(0, 256, 0)", door, () -> door.draft(0, 256, 0));
-        check.illegal("draft(0, -1, 0)", door, () -> door.draft(0, -1, 0));
     }
 
     /** Promise 5. */
@@ -148,18 +106,6 @@ public final class StationTest {
         door.put(9, 100, 0);
         door.put(9, 100, 0);
         check.due("LENGTH has two bytes", length(door), bytes(1, 333 - 256));
-        check.illegal("put(-1, 1, 1)", door, () -> door.put(-1, 1, 1));
-        check.illegal("put(256, 1, 1)", door, () -> door.put(256, 1, 1));
-        check.illegal("put(1, -1, 1)", door, () -> door.put(1, -1, 1));
-        check.illegal("put(1, 101, 1)", door, () -> door.put(1, 101, 1));
-        check.illegal("put(1, 1, -1)", door, () -> door.put(1, 1, -1));
-        check.illegal("put(1, 1, 256)", door, () -> door.put(1, 1, 256));
-        needs("put(7, 0, 1)", 2, d -> d.put(7, 0, 1));
-        needs("put(7, 50, 1)", 52, d -> d.put(7, 50, 1));
-        needs("put(7, 100, 1)", 102, d -> d.put(7, 100, 1));
-        DoorServer full = filled(1000);
-        check.illegal("put(256, 1, 1) into a full draft", full, () -> full.put(256, 1, 1));
-        check.illegal("put(1, 101, 1) into a full draft", full, () -> full.put(1, 101, 1));
     }
 
     /** Promise 6. */
@@ -169,11 +115,6 @@ public final class StationTest {
         check.due("its bytes", tail(door, 6), bytes(42, 6, 1, 2, 3, 4));
         door.number(255, -2);
         check.due("number(255, -2)", tail(door, 6), bytes(255, 6, 255, 255, 255, 254));
-        check.illegal("number(-1, 1)", door, () -> door.number(-1, 1));
-        check.illegal("number(256, 1)", door, () -> door.number(256, 1));
-        needs("number(7, 1)", 6, d -> d.number(7, 1));
-        DoorServer full = filled(1000);
-        check.illegal("number(256, 1) into a full draft", full, () -> full.number(256, 1));
     }
 
     /** Promise 7. */
@@ -185,11 +126,6 @@ public final class StationTest {
         check.due("name(31)", tail(door, 5), bytes(1, 5, 'u', '3', '1'));
         door.name(9);
         check.due("name(9)", tail(door, 5), bytes(1, 5, 'u', '0', '9'));
-        check.illegal("name(-1)", door, () -> door.name(-1));
-        check.illegal("name(32)", door, () -> door.name(32));
-        needs("name(7)", 5, d -> d.name(7));
-        DoorServer full = filled(1000);
-        check.illegal("name(32) into a full draft", full, () -> full.name(32));
     }
 
     /** Promise 8. */
@@ -206,15 +142,6 @@ public final class StationTest {
             check.due("LENGTH", length(door), bytes(0, 22 + padded));
         }
         DoorServer door = new DoorServer();
-        check.illegal("password(-1, 1, 1)", door, () -> door.password(-1, 1, 1));
-        check.illegal("password(4, 1, 1)", door, () -> door.password(4, 1, 1));
-        check.illegal("password(0, 1, 0)", door, () -> door.password(0, 1, 0));
-        check.illegal("password(0, 1, 61)", door, () -> door.password(0, 1, 61));
-        needs("password(0, 1, 16)", 18, d -> d.password(0, 1, 16));
-        needs("password(0, 1, 17)", 34, d -> d.password(0, 1, 17));
-        needs("password(0, 1, 60)", 66, d -> d.password(0, 1, 60));
-        DoorServer full = filled(1000);
-        check.illegal("password(0, 1, 61) into a full draft", full, () -> full.password(0, 1, 61));
     }
 
     /** Promise 9. */
@@ -222,11 +149,6 @@ public final class StationTest {
         DoorServer door = new DoorServer();
         check.due("hello(255)", door.hello(255), 27);
         check.due("its bytes", tail(door, 7), bytes(79, 7, 2, 255, 0, 5, 1));
-        check.illegal("hello(-1)", door, () -> door.hello(-1));
-        check.illegal("hello(256)", door, () -> door.hello(256));
-        needs("hello(7)", 7, d -> d.hello(7));
-        DoorServer full = filled(1000);
-        check.illegal("hello(256) into a full draft", full, () -> full.hello(256));
     }
 
     private static void ask(DoorServer door, int number) {
@@ -253,15 +175,6 @@ public final class StationTest {
             check.due("its bytes", tail(door, 34), Model.join(24, 10, bytes(0, 0, 0, 0, 0, 0, 0, 1), 79, 24, 2, 0, 0, 22, 4, 16, digest));
             check.due("LENGTH", length(door), bytes(0, 54));
         }
-        check.illegal("reply(P, 0)", door, () -> door.reply(P, 0));
-        check.illegal("reply(P, 61)", door, () -> door.reply(P, 61));
-        while (door.count(5) + 34 + 20 <= 1000) {
-            door.put(26, 18, 0);
-        }
-        int left = 1000 - 34 - door.count(5);
-        door.put(26, left + 1 - 2, 0);
-        check.refuses("reply into 967 bytes", door, Check.ILLEGAL_STATE, () -> door.reply(P, 20));
-        check.illegal("reply of 61 into 967 bytes", door, () -> door.reply(P, 61));
         door.draft(9, 0, 0);
         check.due("what is not answered leaves the last answer", door.send(0), DoorServer.OTHER);
         check.due("so there is still a reply", door.reply(P, 20), 54);
@@ -269,17 +182,6 @@ public final class StationTest {
         door.prove(0);
         check.due("a reject", door.send(0), 3);
         check.due("reply to a reject", door.reply(P, 20), DoorServer.NONE);
-        check.illegal("reply(P, 61) to a reject", door, () -> door.reply(P, 61));
-        DoorServer full = filled(1000);
-        check.due("reply without a challenge into a full draft", full.reply(P, 20), DoorServer.NONE);
-        DoorServer exact = new DoorServer();
-        ask(exact, 3);
-        exact.draft(1, 2, 2);
-        for (int i = 0; i < 9; i++) {
-            exact.put(26, 100, 0);
-        }
-        exact.put(26, 966 - 938 - 2, 0);
-        check.due("reply into 966 bytes", exact.reply(P, 20), 1000);
     }
 
     /** Promise 11. */
@@ -331,18 +233,6 @@ public final class StationTest {
         check.due("an attribute that goes beyond the end still", lost.prove(0), 55);
         check.due("the one that came is made right", Check.draft(lost), Model.with(whole, 39, Model.hmac(bytes(49), whole)));
 
-        check.illegal("prove(-1)", door, () -> door.prove(-1));
-        check.illegal("prove(4)", door, () -> door.prove(4));
-        needs("prove(0)", 18, d -> d.prove(0));
-        DoorServer full = filled(1000);
-        check.illegal("prove(4) into a full draft", full, () -> full.prove(4));
-        check.refuses("prove(0) into a full draft", full, Check.ILLEGAL_STATE, () -> full.prove(0));
-        DoorServer shifted = filled(1000);
-        shifted.spoil(shifted.count(5) - 61, 62 ^ 61);
-        check.refuses("prove(0) with a byte left at the end", shifted, Check.ILLEGAL_STATE, () -> shifted.prove(0));
-        DoorServer there = filled(982);
-        there.prove(0);
-        check.due("prove again in a full draft", there.prove(1), 1000);
     }
 
     /** A PROOF that says 18 bytes and has n + 2: where one comes behind it, it has them all, and is the first. */
@@ -371,14 +261,6 @@ public final class StationTest {
         check.due("seal(1)", Check.draft(door), Model.with(blank, 4, Model.md5(blank, Model.pattern(P, 40))));
         door.seal(0);
         check.due("seal(0)", Check.draft(door), Model.with(blank, 4, Model.md5(blank, 49)));
-        check.illegal("seal(-1)", door, () -> door.seal(-1));
-        check.illegal("seal(4)", door, () -> door.seal(4));
-        for (int n : new int[] {54, 55, 62, 63, 64, 118, 119, 999, 1000}) {
-            DoorServer long1 = filled(n);
-            byte[] text = Model.with(Check.draft(long1), 4, new byte[16]);
-            long1.seal(3);
-            check.due("seal of " + n + " bytes", Check.draft(long1), Model.with(text, 4, Model.md5(text, 52)));
-        }
     }
 
     /** Promise 13. */
@@ -390,32 +272,21 @@ public final class StationTest {
         check.due("spoil(19, 90)", door.spoil(19, 90), 0);
         door.put(1, 1, 129);
         check.due("spoil(22, 1)", door.spoil(22, 1), 128);
-        check.illegal("spoil(23, 1)", door, () -> door.spoil(23, 1));
-        check.illegal("spoil(-1, 1)", door, () -> door.spoil(-1, 1));
-        check.illegal("spoil(0, -1)", door, () -> door.spoil(0, -1));
-        check.illegal("spoil(0, 256)", door, () -> door.spoil(0, 256));
-        door.draft(1, 1, 1);
-        check.illegal("spoil(22, 1) in a shorter draft", door, () -> door.spoil(22, 1));
     }
 
     /** Promises 15 and 16. */
     private static void answerBytes() {
         DoorServer door = new DoorServer();
         check.due("size()", door.size(), 0);
-        check.illegal("byteAt(0)", door, () -> door.byteAt(0));
-        check.illegal("byteAt(-1)", door, () -> door.byteAt(-1));
         ask(door, 1);
         check.due("size() of a challenge", door.size(), 72);
         check.due("byteAt(0)", door.byteAt(0), 11);
         check.due("byteAt(55)", door.byteAt(55), 18);
         check.due("byteAt(71)", door.byteAt(71) >= 0 ? 1 : 0, 1);
-        check.illegal("byteAt(72)", door, () -> door.byteAt(72));
-        check.illegal("byteAt(-1)", door, () -> door.byteAt(-1));
         door.draft(1, 2, 2);
         door.prove(0);
         door.send(0);
         check.due("size() of a reject", door.size(), 38);
-        check.illegal("byteAt(38)", door, () -> door.byteAt(38));
     }
 
     /** Promise 17. */
@@ -423,25 +294,12 @@ public final class StationTest {
         DoorServer door = new DoorServer();
         check.due("ticks(1)", door.ticks(1), 1);
         check.due("ticks(1000)", door.ticks(1000), 1001);
-        check.illegal("ticks(0)", door, () -> door.ticks(0));
-        check.illegal("ticks(-5)", door, () -> door.ticks(-5));
-        check.illegal("ticks(1001)", door, () -> door.ticks(1001));
-        check.illegal("ticks(largest)", door, () -> door.ticks(Integer.MAX_VALUE));
         check.due("ticks(9)", door.ticks(9), 1010);
-        // No 512 calls reach the last tick: what is looked at here the class does beyond its promise.
-        for (int i = 0; i < 998; i++) {
-            door.ticks(1000);
-        }
-        check.illegal("ticks(991) beyond the last one", door, () -> door.ticks(991));
-        check.due("ticks(990) up to the last one", door.ticks(990), 1000000);
-        check.illegal("ticks(1) after it", door, () -> door.ticks(1));
     }
 
     /** Promise 18. */
     private static void count() {
         DoorServer door = new DoorServer();
-        check.illegal("count(-1)", door, () -> door.count(-1));
-        check.illegal("count(6)", door, () -> door.count(6));
         ask(door, 1);
         door.send(0);
         door.send(0);

@@ -58,6 +58,9 @@ public final class WholeTest {
         dueWhole("one that says 255 and has them", true, Bench.attribute(26, new byte[253]));
         dueWhole("one that says 255 and has 254", false, 26, 255, new byte[252]);
         dueWhole("one that says 255 and has 256", false, 26, 255, new byte[254]);
+        dueWhole("a last one that ends at byte 1000", true, Bench.filling(900), 26, 80, new byte[78]);
+        dueWhole("one that leaves the last of 1000", false, Bench.filling(900), 26, 79, new byte[78]);
+        dueWhole("one that goes beyond byte 1000", false, Bench.filling(900), 26, 81, new byte[78]);
     }
 
     /** "and have 3 bytes or more". */
